@@ -224,6 +224,12 @@ public final class PlansTest {
     Due.thrown("dearestBooking(2)", x, Due.INDEX, () -> x.dearestBooking(2));
     Due.thrown("dearestBooking(-1)", x, Due.INDEX, () -> x.dearestBooking(-1));
 
+    Campground even = Due.made("class 50 50 1; site 0 0;");
+    even.book(0, 10, 3);
+    even.book(0, 20, 2);
+    even.book(0, 9, 5);
+    Due.same("the number of nights counts alone", even.dearestBooking(0), 0);
+
     // 200 nights at 9999 and some more: the products are greater than an int.
     Campground big = Due.made("class 200 200 1; site 0 0; season 0 0 999 1 9999; season 0 0 0 1 9998;");
     big.book(0, 0, 28);

@@ -5,6 +5,7 @@ public final class SavedStatesTest {
     everything();
     twoSlots();
     whatIsNotSaved();
+    afterAnotherSetup();
     Due.end();
   }
 
@@ -89,6 +90,27 @@ public final class SavedStatesTest {
     Due.same("slot 0 is replaced", x.today(), 6);
     Campground other = new Campground();
     Due.thrown("another object has none", other, Due.STATE, () -> other.restore(0));
+  }
+
+  private static void afterAnotherSetup() {
+    Campground x = rich();
+    x.save(0);
+    String before = Due.seen(x);
+    Due.write(x, "class 90 90 1; class 90 90 1; site 1 1 1 1 1; day 7;");
+    x.load();
+    for (int i = 0; i < 8; i++) {
+      x.book(1, 30 + i, 4);
+      x.cancel(i);
+      x.request(1, 70, 9);
+    }
+    x.addSeason(1, 5, 50, 9, 9);
+    x.restore(0);
+    Due.same("restored", before.equals(Due.seen(x)) ? 1 : 0, 1);
+    Due.same("the request is as it was", x.fill(0), 1);
+    int b = x.bookingOf(0);
+    Due.same("its class", x.bookingClass(b), 0);
+    Due.same("its arrival", x.arrival(b), 6);
+    Due.same("its departure", x.departure(b), 8);
   }
 
   private static void whatIsNotSaved() {

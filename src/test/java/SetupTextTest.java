@@ -10,6 +10,7 @@ public final class SetupTextTest {
     wrongNumbers();
     tooMany();
     latestError();
+    bytesBehindTheText();
     Due.end();
   }
 
@@ -134,6 +135,9 @@ public final class SetupTextTest {
     wrong("A", 1, 0);
     wrong("  days 5;", 1, 2);
     wrong("da 5;", 1, 0);
+    wrong("xay 5;", 1, 0);
+    wrong("dayz 5;", 1, 0);
+    wrong("aday 5;", 1, 0);
     wrong("Day 5;", 1, 0);
     wrong("dayx5;", 1, 0);
     wrong("classs 1 1 1;", 1, 0);
@@ -205,6 +209,8 @@ public final class SetupTextTest {
     wrong(four + " class", 3, 49);
     wrong(four + "classy", 1, 48);
     String sixteen = "class 1 1 1;site 0 0 0 0 0 0 0 0;site 0 0 0 0 0 0 0 0";
+    wrong("class 1 1 1;site 0 0 0 0 0 0 0 0 0 0 0 0 0 0 0 0 0;", 3, 49);
+    wrong("class 1 1 1;site 0 0 0 0 0 0 0 0 0 0 0 0 0 0 0 0 0 0", 3, 49);
     wrong(sixteen + " 0;", 3, sixteen.length() + 1);
     wrong(sixteen + " 0 x", 3, sixteen.length() + 1);
     wrong(sixteen + ";site 0", 3, sixteen.length() + 6);
@@ -239,6 +245,39 @@ public final class SetupTextTest {
     error(x, "so does a new text", 2, 4);
     Due.same("load", x.load(), 1);
     error(x, "a good text", 0, -1);
+  }
+
+  private static void bytesBehindTheText() {
+    Campground x = new Campground();
+    Due.write(x, "day 9999");
+    x.truncateText(7);
+    Due.same("the number is cut", x.load(), -1);
+    error(x, "day 999", 1, 7);
+    Due.write(x, "days");
+    x.truncateText(3);
+    Due.same("the word is cut", x.load(), -1);
+    error(x, "day", 1, 3);
+    Due.write(x, "day 5; day 6;");
+    x.truncateText(6);
+    Due.same("the rest is cut", x.load(), 1);
+    Due.same("day 5", x.today(), 5);
+    for (String last : new String[] {"a", "5", ";", "?"}) {
+      Due.write(x, " ".repeat(499) + last);
+      Due.same("a wrong last byte", x.load(), -1);
+      error(x, "500 bytes", 1, 499);
+    }
+    Due.write(x, " ".repeat(494) + "day 8;");
+    Due.same("500 bytes", x.load(), 1);
+    Due.same("day 8", x.today(), 8);
+    Due.write(x, "0".repeat(500));
+    Due.same("500 digits", x.load(), -1);
+    error(x, "500 digits", 1, 0);
+    Due.write(x, "day " + "0".repeat(494) + "9;");
+    Due.same("many zeros", x.load(), 1);
+    Due.same("day 9", x.today(), 9);
+    Due.write(x, "day " + "9".repeat(496));
+    Due.same("many nines", x.load(), -1);
+    error(x, "many nines", 2, 4);
   }
 
   private static void good(String text, int statements) {
