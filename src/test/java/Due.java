@@ -5,14 +5,25 @@ final class Due {
   static final Class<?> STATE = IllegalStateException.class;
 
   private static int wrong = 0;
+  private static String about = "";
 
   private Due() {
+  }
+
+  /** What the next answers are about; it is told with the wrong ones. */
+  static void about(String what) {
+    about = what.isEmpty() ? "" : what + ": ";
+  }
+
+  /** How many answers were wrong so far. */
+  static int wrong() {
+    return wrong;
   }
 
   static void same(String call, long got, long want) {
     if (got != want) {
       wrong++;
-      System.out.println(call + " answered " + got + ", due is " + want);
+      System.out.println(about + call + " answered " + got + ", due is " + want);
     }
   }
 
@@ -27,11 +38,11 @@ final class Due {
     }
     if (got != want) {
       wrong++;
-      System.out.println(call + " threw " + got + ", due is " + want);
+      System.out.println(about + call + " threw " + got + ", due is " + want);
     }
     if (!before.equals(seen(camp))) {
       wrong++;
-      System.out.println(call + " changed the campground");
+      System.out.println(about + call + " changed the campground");
     }
   }
 
@@ -44,9 +55,13 @@ final class Due {
 
   /** All that can be asked without changing anything, as one text. */
   static String seen(Campground camp) {
+    return camp.errorCode() + " " + camp.errorPosition() + " " + textLength(camp) + "\n" + seenCamp(camp);
+  }
+
+  /** The same without the text buffer and the latest error. */
+  static String seenCamp(Campground camp) {
     StringBuilder text = new StringBuilder();
-    text.append(camp.today()).append(' ').append(camp.revenue()).append(' ');
-    text.append(camp.errorCode()).append(' ').append(camp.errorPosition()).append('\n');
+    text.append(camp.today()).append(' ').append(camp.revenue()).append('\n');
     for (int s = 0; s < camp.siteCount(); s++) {
       text.append(camp.classOf(s)).append(' ');
     }
@@ -69,6 +84,18 @@ final class Due {
     return text.toString();
   }
 
+  /** Found by cutting the text to just the length that it has. */
+  private static int textLength(Campground camp) {
+    for (int length = 500; length > 0; length--) {
+      try {
+        return camp.truncateText(length);
+      } catch (IllegalArgumentException e) {
+        continue;
+      }
+    }
+    return 0;
+  }
+
   private static boolean isRequest(Campground camp, int request) {
     try {
       camp.requestState(request);
@@ -78,8 +105,9 @@ final class Due {
     }
   }
 
-  /** Puts a text into the empty buffer. */
+  /** Puts a text into the buffer, in the place of what is there. */
   static void write(Campground camp, String text) {
+    camp.truncateText(0);
     for (int at = 0; at < text.length(); at += 4) {
       int four = 0;
       for (int i = at; i < at + 4; i++) {
