@@ -15,6 +15,9 @@ final class BookingsBoundaries {
     x.cancel(59);
     Due.thrown("a cancelled one keeps its number", x, Due.STATE, () -> x.book(0, 70, 1));
     Due.same("the last one", x.arrival(59), 59);
+    x.endDays(60);
+    Due.same("the last but one is ABSENT", x.bookingState(58), 4);
+    Due.same("the last one is as it was", x.bookingState(59), 3);
   }
 
   @Says(at = "BOOKINGS", words = "A booking has a class, an arrival day, a departure day, a cost, and a state: BOOKED "

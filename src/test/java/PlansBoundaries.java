@@ -575,6 +575,9 @@ final class PlansBoundaries {
     Due.same("nothing is taken", x.busiestNight(0, 7, 998), 7);
     x.book(0, 5, 3);
     Due.same("one, the first of its nights", x.busiestNight(0, 0, 998), 5);
+    Due.same("the second night of the range", x.busiestNight(0, 4, 998), 5);
+    Due.same("the first night of the range", x.busiestNight(0, 5, 998), 5);
+    Due.same("the last night of the range", x.busiestNight(0, 3, 5), 5);
     x.book(0, 7, 2);
     Due.same("two on night 7", x.busiestNight(0, 0, 998), 7);
     x.book(0, 8, 1);

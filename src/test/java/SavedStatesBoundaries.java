@@ -22,9 +22,16 @@ final class SavedStatesBoundaries {
     Due.same("not the text", x.truncateText(12), 12);
     x.restore(1);
     Due.same("not the saved states", x.today(), 5);
+    other(x);
+    Due.write(x, "class 1 1 1;");
     x.restore(0);
+    Due.same("everything, after quite another campground", Due.seenCamp(x).equals(before) ? 1 : 0, 1);
     Due.same("a closing", x.open(1), 20);
     Due.same("the requests", x.fill(0), 2);
+    for (int r = 0; r < 2; r++) {
+      Due.same("arrival of request " + r, x.arrival(x.bookingOf(r)), 30 + r);
+      Due.same("departure of request " + r, x.departure(x.bookingOf(r)), 32 + r);
+    }
     Due.same("the text is still there", x.load(), 1);
     Due.same("and is read", x.classCount(), 1);
   }
@@ -114,6 +121,17 @@ final class SavedStatesBoundaries {
       Due.thrown("only the other one", x, Due.STATE, () -> x.restore(empty));
       x.load();
       Due.thrown("nor after another setup", x, Due.STATE, () -> x.restore(empty));
+    }
+  }
+
+  /** Makes it a campground in which every row holds something else. */
+  private static void other(Campground x) {
+    Due.write(x, "class 20 9 1; class 30 8 2; class 99 99 9; site 2 2 2; season 2 1 2 3 4;");
+    x.load();
+    for (int b = 0; b < 3; b++) {
+      x.book(2, 0, 4 + b);
+      x.checkIn(b, 2 - b);
+      x.request(2, 60, 9);
     }
   }
 

@@ -127,7 +127,8 @@ final class SetupTextBoundaries {
     good("day 1;", 1);
     wrong("day;", 1, 3);
     wrong("day 1 2;", 1, 6);
-    for (String word : new String[] {"clas", "classs", "sit", "sites", "seaso", "seasons", "da", "days", "x"}) {
+    for (String word : new String[] {"clas", "classs", "sit", "sites", "seaso", "seasons", "da", "days", "x",
+        "xlass", "clasx", "xite", "sitx", "xeason", "seasox", "xay", "dax"}) {
       wrong(word + " 1 1 1;", 1, 0);
     }
   }
@@ -213,6 +214,8 @@ final class SetupTextBoundaries {
     wrong("class 1 1 1;season 0 1 2 3", 1, 26);
     wrong("day 5" + " ".repeat(495), 1, 500);
     wrong(" ".repeat(499) + "x", 1, 499);
+    wrong("day " + "0".repeat(496), 1, 500);
+    wrong("x".repeat(500), 1, 0);
   }
 
   @Says(at = "SETUP TEXTS", words = "The error code is 1 if the token is not allowed there or a byte belongs to no token, "
@@ -307,6 +310,18 @@ final class SetupTextBoundaries {
     x.appendText(';' << 24 | ' ' << 16 | ' ' << 8 | ' ');
     Due.same("the cut bytes do not come back", x.load(), 1);
     Due.same("today", x.today(), 1);
+    Due.write(x, "day 9999");
+    x.truncateText(7);
+    Due.same("a number is cut", x.load(), NONE);
+    Due.same("999 is a day, but the text ends too early", x.errorCode(), 1);
+    Due.same("at its end", x.errorPosition(), 7);
+    Due.write(x, "dayday");
+    x.truncateText(3);
+    Due.same("a word is cut", x.load(), NONE);
+    Due.same("day is a word", x.errorPosition(), 3);
+    Due.write(x, "day 5; ?");
+    x.truncateText(7);
+    Due.same("a wrong byte is cut", x.load(), 1);
   }
 
   @Says(at = "Promise 51", words = "`length`: the new length, 0 to the present length")
